@@ -316,8 +316,8 @@ public final class PavedByNext {
         }
         trial.copyFrom(now);
         trial.putBehind(street, hands);
-        int all = trial.mudBehind(n);
-        return all - trial.mudOf(now.count);
+        // The new street neither has MUD nor wears, so MUD of all is that of those there are now.
+        return trial.mudBehind(n);
     }
 
     public int takeOut(int street, int n) {
