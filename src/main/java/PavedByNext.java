@@ -25,6 +25,8 @@ public final class PavedByNext {
     private static final int YEARS_AHEAD_OF_AGAIN = 40;
     private static final int YEARS_TO_FEEL = 40;
     private static final int MAPS_MOST = 720;
+    private static final int MORE_THAN_ALL_MUD = STREETS_MOST * MUD_MOST + 1;
+    private static final int ALL_BUT_SIGN = 0x7fffffff;
 
     private static final int ALL = -1;
     private static final int NONE = -1;
@@ -290,7 +292,7 @@ public final class PavedByNext {
         if (refusal != FITS) {
             return refuse(refusal);
         }
-        int least = Integer.MAX_VALUE;
+        int least = MORE_THAN_ALL_MUD;
         int found = DWELLER;
         for (int kind = 0; kind < KINDS; kind++) {
             trial.copyFrom(now);
@@ -380,7 +382,7 @@ public final class PavedByNext {
         for (int past = 0; past < n; past++) {
             for (int street = 0; street < trial.count; street++) {
                 seed = seed * 1664525 + 1013904223;
-                trial.wear[street] = (seed & Integer.MAX_VALUE) / 256 % (WEAR_MOST + 1);
+                trial.wear[street] = (seed & ALL_BUT_SIGN) / 256 % (WEAR_MOST + 1);
             }
             trial.passYear();
         }
@@ -483,7 +485,7 @@ public final class PavedByNext {
         for (int street = 0; street < now.count; street++) {
             map[street] = street;
         }
-        int least = Integer.MAX_VALUE;
+        int least = MORE_THAN_ALL_MUD;
         boolean more = true;
         for (int maps = 0; maps < MAPS_MOST && more; maps++) {
             trial.copyFrom(now);
