@@ -837,9 +837,13 @@ public final class PavedByNext {
                 case PAID_STREET: return isDigit(c) ? COMMA : NONE;
                 case COMMA: return c == ',' ? PENCE : NONE;
                 case PENCE: return isDigit(c) ? MORE_PENCE : NONE;
-                case MORE_PENCE: return isDigit(c) ? END : dueBehind(END, c);
-                default: return c == ';' ? STATEMENT : NONE;
+                case MORE_PENCE: return isDigit(c) ? END : dueAtEnd(c);
+                default: return dueAtEnd(c);
             }
+        }
+
+        private static int dueAtEnd(char c) {
+            return c == ';' ? STATEMENT : NONE;
         }
 
         private static int dueInStatement(char c) {
