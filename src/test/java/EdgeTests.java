@@ -90,6 +90,7 @@ public final class EdgeTests {
         feltFromTheFirstToTheFortiethYear();
         worthBehindNoneToSixtyYears();
         worthMayBeBelowZero();
+        lazedPaysAndIsPaid();
         refusalsOfWorth();
     }
 
@@ -107,9 +108,11 @@ public final class EdgeTests {
         cureByMostKinds();
         cureBehindOneToThirtyYears();
         putInWithNoneToFourHands();
+        putInBehindEachKind();
         putInAmongOneToFiveStreets();
         putInBehindOneToThirtyYears();
         takeOutOfHisOwn();
+        takeOutOfAWidow();
         takeOutOfTheOnlyOne();
         takeOutOfTheFirstAndOfTheLast();
         takeOutBehindOneToThirtyYears();
@@ -139,6 +142,7 @@ public final class EdgeTests {
         refusalsInTheOrderTold();
         callsInTheEmptyTown();
         callsInTheFullTown();
+        streetsInMindAreNone();
     }
 
     private static void due(String what, int got, int want) {
@@ -687,6 +691,7 @@ public final class EdgeTests {
         due("nothing changed", seen(x).equals(before) ? 1 : 0, 1);
         due("refusals -6", x.count(16), 2);
         due("refusals", refusals(x), 2);
+        due("in mind there are more YEARS", x.mud(0, 1), 8);
         due("in mind there are more YEARS", x.mud(0, 2), 7);
         due("on()", x.on(), 998);
         due("a YEAR more", x.year(), 7);
@@ -877,6 +882,16 @@ public final class EdgeTests {
         due("0", town("sd000;").worth(0, 60), 0);
     }
 
+    /** "Mended nothing" is all that is else: by a penny more or less a WIDOW would mend more or less, and be seen. */
+    private static void lazedPaysAndIsPaid() {
+        PavedByNext paid = town("sw900;sd000;sw000;m01;m10;m20;p2,0;");
+        due("not the next of those who mend her street", paid.worth(1, 9), 0);
+        due("nor felt", paid.felt(1, 0), -9);
+        PavedByNext pays = town("sw000;sw900;sw000;m02;m10;m21;p1,0;p2,0;");
+        due("her penny goes to another and on", pays.mud(1, 3), 8);
+        due("also while she lazes", pays.worth(0, 3), 0);
+    }
+
     private static void refusalsOfWorth() {
         PavedByNext x = town("sd000;");
         due("nobody, n below", x.worth(1, -1), 1000000001);
@@ -980,7 +995,7 @@ public final class EdgeTests {
         due("two alike", town("sd400;m00;p0,0;").cure(0, 1), 0);
     }
 
-    /** Found by a search; none was found that c alone would cure best. */
+    /** Found by searches. */
     private static void cureByMostKinds() {
         due("d", town("sw612;p0,0;").cure(0, 8), 0);
         due("d", town("st023;p0,7;").cure(0, 2), 0);
@@ -988,6 +1003,8 @@ public final class EdgeTests {
         due("t", town("sd833;sc424;m00;m10;p0,74;p1,34;").cure(0, 2), 2);
         due("w", town("sd900;").cure(0, 3), 3);
         due("m", town("sd902;").cure(0, 1), 4);
+        String town = "st323;sd200;sw124;sc103;st934;m04;m13;m20;m34;m42;";
+        due("c", town(town, "p0,0;p1,0;p2,0;p3,0;p4,0;").cure(2, 3), 5);
     }
 
     private static void cureBehindOneToThirtyYears() {
@@ -1011,6 +1028,15 @@ public final class EdgeTests {
         due("HANDS the least", x.putIn(0, LEAST, 1), -4);
         due("either is below", x.putIn(0, 5, 0), -4);
         due("either is below", x.putIn(0, -1, 31), -4);
+    }
+
+    private static void putInBehindEachKind() {
+        for (char kind : "dltwmc".toCharArray()) {
+            PavedByNext x = town("s" + kind + "902;");
+            for (int n = 1; n <= 4; n++) {
+                due("a DWELLER behind " + kind + " and " + n + " YEARS", x.putIn(0, 2, n), 9 - 2 * n);
+            }
+        }
     }
 
     private static void putInAmongOneToFiveStreets() {
@@ -1042,6 +1068,15 @@ public final class EdgeTests {
         PavedByNext x = town("sd934;sd904;m00;m10;");
         due("who mends it mends on", x.takeOut(0, 2), 9);
         due("of another", x.takeOut(1, 2), 4);
+    }
+
+    /** Two WIDOWS without PENCE: hers would come to the first, then from her to the second, who would mend with it. */
+    private static void takeOutOfAWidow() {
+        PavedByNext x = town("sw000;sw900;sw000;m00;m10;m21;p1,0;p2,0;");
+        due("while she lives there she gives it to herself", x.mud(1, 3), 9);
+        due("when nobody does, nobody gives any", x.takeOut(0, 3), 9);
+        x.mends(0, 2);
+        due("so much a penny of hers would do", x.mud(1, 3), 8);
     }
 
     private static void takeOutOfTheOnlyOne() {
@@ -1422,5 +1457,55 @@ public final class EdgeTests {
         }
         due("worth(6, 60)", x.worth(6, 60), 1000000001);
         due("refusals -1", x.count(11), 17);
+    }
+
+    /** A street put in in mind, one of a text with a FAULT and one that ON takes away are none for the calls behind. */
+    private static void streetsInMindAreNone() {
+        PavedByNext empty = new PavedByNext();
+        due("FAULT of the second", tell(empty, "sd000;m99;"), -2006);
+        noStreet("told with a FAULT", empty, 0);
+        for (int streets = 1; streets <= 5; streets++) {
+            String text = SIX.substring(0, 6 * streets);
+            PavedByNext put = town(text);
+            due("in mind", put.putIn(0, 4, 30), 0);
+            noStreet("put in", put, streets);
+            PavedByNext fault = town(text);
+            due("FAULT of the second", tell(fault, "sd000;m99;"), -2006);
+            noStreet("told with a FAULT", fault, streets);
+            PavedByNext gone = town(text);
+            gone.image();
+            tell(gone, "sd000;");
+            gone.mud(streets, 1);
+            gone.on();
+            noStreet("behind ON", gone, streets);
+        }
+    }
+
+    private static void noStreet(String how, PavedByNext x, int none) {
+        int known = Math.max(0, none - 1);
+        for (int i = 0; i < none; i++) {
+            x.row(0);
+        }
+        int[] refused = {x.street(none, 0), x.mends(none, known), x.mends(known, none), x.pence(none, 0), x.hands(none, 0),
+            x.mud(none, 0), x.way(none, known), x.way(known, none), x.tail(none), x.felt(none, known),
+            x.felt(known, none), x.bestMap(1, none), x.cure(none, 1), x.putIn(none, 0, 1), x.takeOut(none, 1),
+            x.fitting(none, 1)};
+        for (int i = 0; i < refused.length; i++) {
+            due("call " + i + " of street " + none + ", " + how, refused[i], -1);
+        }
+        due("worth of street " + none + ", " + how, x.worth(none, 0), 1000000001);
+        due("RING, " + how, x.ring(), (1 << none) - 1);
+        due("NEVER, " + how, x.never(), 0);
+        due("FITTING, " + how, x.fitting(known, 30), none > 0 ? 63 : -1);
+        due("WORST, " + how, x.worst(0, 1), none > 0 ? 0 : -9);
+        due("CHANGE, " + how, x.change(1), -9);
+        due("JUDGED, " + how, x.judge(), -9);
+        for (int street = 0; street < none; street++) {
+            due("TAIL of " + street + ", " + how, x.tail(street), 0);
+            due("BEST MAP of " + street + ", " + how, x.bestMap(1, street), street);
+            due("FED of " + street + ", " + how, x.street(street, 7), 1);
+        }
+        due("it comes, " + how, tell(x, "sd000;"), 1);
+        due("and is there, " + how, x.street(none, 4), 9);
     }
 }

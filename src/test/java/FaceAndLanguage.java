@@ -21,6 +21,9 @@ public final class FaceAndLanguage {
             "\\bequals\\b", "\\bhashCode\\b", "\\btoString\\b", "\\bObject\\b", "\\bThread\\b", "\\bnanoTime\\b",
             "\\bcurrentTimeMillis\\b", "\\bRandom\\b", "\\bsun\\b");
 
+    private static final Set<String> LIBRARY = Set.of("String", "StringBuilder", "Integer", "Long", "Math", "ArrayList",
+            "List", "Iterator", "Iterable", "Comparable", "System", "Arrays");
+
     private static int wrong = 0;
 
     private static void holds(String what, boolean holds) {
@@ -95,6 +98,14 @@ public final class FaceAndLanguage {
             Matcher m = Pattern.compile(word).matcher(code);
             holds("the source is without " + word, !m.find());
         }
+        Matcher type = Pattern.compile("\\b[A-Z][A-Za-z]*[a-z][A-Za-z]*\\b").matcher(code);
+        while (type.find()) {
+            String name = type.group();
+            holds(name + " is a class of its own or of the library that is left",
+                    LIBRARY.contains(name) || code.contains("class " + name + " "));
+        }
+        holds("of System arraycopy alone", !code.replace("System.arraycopy(", "").contains("System"));
+        holds("no texts joined by +", !Pattern.compile("\"\\s*\\+|\\+\\s*\"").matcher(code).find());
         holds("signs 1 to 127 alone", text.chars().allMatch(c -> c >= 1 && c <= 127));
         methodLengths(text.split("\n"), "    ");
         methodLengths(text.split("\n"), "        ");
